@@ -15,6 +15,7 @@ public final class RangesTest {
         moveRefuses();
         stepBringsTheLowestKeyFirst();
         stepPassesOverWhatWasWritten();
+        stepBringsTheOutermostKeysOfTheRange();
         stepEndsTheMoveOfNoRows();
         stepRefuses();
         giveUpDropsTheRowsOfTheOtherShard();
@@ -246,6 +247,24 @@ public final class RangesTest {
         X.due("address(40)", 9, () -> b.address(40));
         X.due("address(20)", NONE, () -> b.address(20));
         X.due("address(30)", NONE, () -> b.address(30));
+    }
+
+    private static void stepBringsTheOutermostKeysOfTheRange() {
+        ShardBallots b = new ShardBallots();
+        b.split(29);
+        b.split(60);
+        for (int key : new int[] {0, 29, 30, 60, 61, 99}) {
+            b.join(key, 0);
+        }
+        for (int range = 0; range < 3; range++) {
+            int r = range;
+            b.move(r, r + 1);
+            X.due("step to the first key of " + r, new int[] {0, 30, 61}[r], () -> b.step(r));
+            X.due("step to the last key of " + r, new int[] {29, 60, 99}[r], () -> b.step(r));
+            X.due("step to the end of " + r, NONE, () -> b.step(r));
+            X.due("rows(" + (r + 1) + ")", 2, () -> b.rows(r + 1));
+            X.due("rows(0) after " + r, 4 - 2 * r, () -> b.rows(0));
+        }
     }
 
     private static void stepEndsTheMoveOfNoRows() {

@@ -287,6 +287,12 @@ public final class VoteTest {
         b.fix();
         b.send(0);
         X.due("close counts its own vote only", 1, () -> b.close());
+        ShardBallots first = withThree();
+        first.fix();
+        first.send(0);
+        X.due("close counts the first ballot", 1, () -> first.close());
+        first.fix();
+        X.due("close of a vote without ballots", 0, () -> first.close());
     }
 
     private static void closeTakesTheRollAway() {
