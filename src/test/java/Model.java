@@ -83,6 +83,10 @@ final class Model {
         return ranges.size();
     }
 
+    int memberCount() {
+        return members.size();
+    }
+
     int ballotCount() {
         return ballots.size();
     }

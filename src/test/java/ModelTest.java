@@ -19,6 +19,7 @@ public final class ModelTest {
         {20, 4, 1, 1, 1, 2, 3, 1, 2, 6, 4, 1},
         {6, 6, 6, 6, 3, 12, 30, 3, 0, 0, 0, 0},
         {6, 3, 1, 0, 0, 1, 2, 0, 3, 30, 4, 1},
+        {10, 3, 1, 0, 0, 1, 2, 0, 3, 60, 3, 1},
         {6, 3, 3, 3, 1, 3, 6, 1, 6, 12, 8, 6},
         {2, 2, 1, 20, 4, 4, 6, 1, 1, 1, 1, 1}};
     private static final int[] FAR = {Integer.MIN_VALUE, Integer.MIN_VALUE + 1, Integer.MAX_VALUE - 1, Integer.MAX_VALUE};
@@ -37,7 +38,7 @@ public final class ModelTest {
     private static void run(Checks x, int seed) {
         Random random = new Random(seed);
         int[] mix = MIXES[seed % MIXES.length];
-        int keys = seed % 3 == 0 ? 100 : 6 + random.nextInt(60);
+        int keys = random.nextInt(3) == 0 ? 100 : 6 + random.nextInt(60);
         ShardBallots object = new ShardBallots();
         Model model = new Model();
         StringBuilder calls = new StringBuilder();
@@ -50,6 +51,9 @@ public final class ModelTest {
             calls.append(call).append('(').append(a).append(", ").append(b).append(") ");
             x.same(got.equals(want) ? call : "seed " + seed + ": " + calls, want, got);
             OUTCOMES.merge(call + " " + kind(want), 1, Integer::sum);
+            OUTCOMES.merge("ranges " + model.rangeCount(), 1, Integer::sum);
+            OUTCOMES.merge("members " + model.memberCount(), 1, Integer::sum);
+            OUTCOMES.merge("ballots " + model.ballotCount(), 1, Integer::sum);
             if (!got.equals(want)) {
                 return;
             }
@@ -155,9 +159,15 @@ public final class ModelTest {
             for (char sign : row.substring(row.indexOf(' ') + 1).toCharArray()) {
                 String kind = sign == 'I' ? Model.NO_SUCH : sign == 'B' ? Model.OUT_OF_RANGE
                         : sign == 'S' ? Model.REFUSED : sign == 'N' ? "NONE" : "a number";
-                boolean enough = OUTCOMES.getOrDefault(call + " " + kind, 0) >= 100;
-                x.same("a hundred times " + call + ": " + kind, "true", "" + enough);
+                seenOften(x, call + " " + kind);
             }
         }
+        seenOften(x, "ranges 8");
+        seenOften(x, "members 40");
+        seenOften(x, "ballots 60");
+    }
+
+    private static void seenOften(Checks x, String outcome) {
+        x.same("a hundred times " + outcome, "true", "" + (OUTCOMES.getOrDefault(outcome, 0) >= 100));
     }
 }

@@ -155,6 +155,7 @@ public final class VoteTest {
         X.due("sentTo(59)", 15, () -> b.sentTo(59));
         X.noSuch("stateOf(60)", () -> b.stateOf(60));
         X.due("giveBack(59, 0)", 1, () -> b.giveBack(59, 0));
+        X.due("counted(1, 0) of 60 ballots", 1, () -> b.counted(1, 0));
         X.due("close", 0, () -> b.close());
         b.fix();
         X.refused("send in a third vote", () -> b.send(0));
