@@ -133,7 +133,7 @@ public final class ShardBallots {
             throw new IllegalStateException("there are 8 ranges");
         }
         insertCopyBehind(range);
-        lastKeys[range] = key;
+        putLastKey(range, key);
         return range + 1;
     }
 
@@ -389,7 +389,7 @@ public final class ShardBallots {
     private int rangeHolding(int key) {
         int last = rangeCount - 1;
         for (int range = 0; range < last; range++) {
-            if (key <= lastKeys[range]) {
+            if (key <= lastKeyOf(range)) {
                 return range;
             }
         }
@@ -416,24 +416,32 @@ public final class ShardBallots {
         return isRange(range) ? lastKeys[range] : NONE;
     }
 
+    private void putLastKey(int range, int key) {
+        if (isRange(range)) {
+            lastKeys[range] = key;
+        }
+    }
+
     private void insertCopyBehind(int range) {
-        for (int to = rangeCount; to > range; to--) {
+        rangeCount++;
+        for (int to = rangeCount - 1; to > range; to--) {
             copyRange(to - 1, to);
         }
-        rangeCount++;
     }
 
     private void remove(int range) {
-        rangeCount--;
-        for (int to = range; to < rangeCount; to++) {
+        for (int to = range; to < rangeCount - 1; to++) {
             copyRange(to + 1, to);
         }
+        rangeCount--;
     }
 
     private void copyRange(int from, int to) {
-        lastKeys[to] = lastKeys[from];
-        homes[to] = homes[from];
-        targets[to] = targets[from];
+        if (isRange(from) && isRange(to)) {
+            lastKeys[to] = lastKeys[from];
+            homes[to] = homes[from];
+            targets[to] = targets[from];
+        }
     }
 
     // ---- ballots

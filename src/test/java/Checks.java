@@ -45,6 +45,11 @@ final class Checks {
         }
     }
 
+    /** What was held otherwise than by one answer counts as one. */
+    void seen() {
+        seen++;
+    }
+
     void end(String test) {
         System.out.println(test + ": " + seen + " answers, " + wrong + " not as due");
         if (wrong != 0) {

@@ -47,7 +47,7 @@ public final class ModelTest {
             int a = first(random, call, keys, model);
             int b = second(random, call);
             String want = model.answer(call, a, b);
-            String got = Checks.answerOf(() -> made(object, call, a, b));
+            String got = Checks.answerOf(() -> Calls.made(object, call, a, b));
             calls.append(call).append('(').append(a).append(", ").append(b).append(") ");
             x.same(got.equals(want) ? call : "seed " + seed + ": " + calls, want, got);
             OUTCOMES.merge(call + " " + kind(want), 1, Integer::sum);
@@ -117,34 +117,6 @@ public final class ModelTest {
             case 1: return limit;
             case 2: return -1 - random.nextInt(200);
             default: return FAR[random.nextInt(FAR.length)];
-        }
-    }
-
-    private static int made(ShardBallots x, String call, int a, int b) {
-        switch (call) {
-            case "join": return x.join(a, b);
-            case "change": return x.change(a, b);
-            case "leave": return x.leave(a);
-            case "address": return x.address(a);
-            case "inDistrict": return x.inDistrict(a);
-            case "split": return x.split(a);
-            case "merge": return x.merge(a);
-            case "move": return x.move(a, b);
-            case "step": return x.step(a);
-            case "giveUp": return x.giveUp(a);
-            case "ranges": return x.ranges();
-            case "rangeOf": return x.rangeOf(a);
-            case "shardOf": return x.shardOf(a);
-            case "rows": return x.rows(a);
-            case "fix": return x.fix();
-            case "onRoll": return x.onRoll(a);
-            case "send": return x.send(a);
-            case "sentTo": return x.sentTo(a);
-            case "giveBack": return x.giveBack(a, b);
-            case "stateOf": return x.stateOf(a);
-            case "counted": return x.counted(a, b);
-            case "close": return x.close();
-            default: throw new AssertionError(call);
         }
     }
 
