@@ -2,15 +2,18 @@ import java.lang.reflect.Constructor;
 import java.lang.reflect.Field;
 import java.lang.reflect.Method;
 import java.lang.reflect.Modifier;
-import java.util.Map;
-import java.util.TreeMap;
+import java.util.HashSet;
+import java.util.Set;
+import java.util.TreeSet;
 
 /** The public face is the document's, and nothing else can be seen from outside. */
 public final class FaceTest {
+    // The name, how many parameters, and the throws clause: I IndexOutOfBoundsException,
+    // A IllegalArgumentException, S IllegalStateException.
     private static final String[] METHODS = {
-        "address 1", "change 2", "close 0", "counted 2", "fix 0", "giveBack 2", "giveUp 1",
-        "inDistrict 1", "join 2", "leave 1", "merge 1", "move 2", "onRoll 1", "rangeOf 1",
-        "ranges 0", "rows 1", "send 1", "sentTo 1", "shardOf 1", "split 1", "stateOf 1", "step 1"};
+        "address 1 I", "change 2 IAS", "close 0 S", "counted 2 IA", "fix 0 S", "giveBack 2 IAS", "giveUp 1 IS",
+        "inDistrict 1 I", "join 2 IAS", "leave 1 IS", "merge 1 IS", "move 2 IS", "onRoll 1 I", "rangeOf 1 I",
+        "ranges 0 ", "rows 1 I", "send 1 IS", "sentTo 1 I", "shardOf 1 I", "split 1 IS", "stateOf 1 I", "step 1 IS"};
 
     public static void main(String[] args) {
         Checks x = new Checks();
@@ -43,24 +46,35 @@ public final class FaceTest {
     }
 
     private static void methods(Checks x) {
-        Map<String, Integer> names = new TreeMap<>();
-        StringBuilder face = new StringBuilder();
+        Set<String> faces = new TreeSet<>();
+        Set<String> names = new HashSet<>();
         for (Method method : ShardBallots.class.getDeclaredMethods()) {
-            if (Modifier.isPrivate(method.getModifiers())) {
-                names.merge(method.getName(), 100, Integer::sum);
-            } else {
+            if (!Modifier.isPrivate(method.getModifiers())) {
                 x.same(method.getName() + " is public", "true", "" + Modifier.isPublic(method.getModifiers()));
+                x.same(method.getName() + " is static", "false", "" + Modifier.isStatic(method.getModifiers()));
                 x.same(method.getName() + " answers", "int", method.getReturnType().getName());
-                names.merge(method.getName(), method.getParameterCount(), Integer::sum);
+                faces.add(face(x, method));
+                names.add(method.getName());
             }
         }
-        names.forEach((name, count) -> {
-            if (count < 100) {
-                face.append(name).append(' ').append(count).append(", ");
-            } else {
-                x.same(name + " is private or public", "0", "" + count % 100);
+        x.same("methods", String.join(", ", METHODS), String.join(", ", faces));
+        for (Method method : ShardBallots.class.getDeclaredMethods()) {
+            if (Modifier.isPrivate(method.getModifiers())) {
+                x.same("private and public: " + method.getName(), "false", "" + names.contains(method.getName()));
             }
-        });
-        x.same("methods", String.join(", ", METHODS) + ", ", face.toString());
+        }
+    }
+
+    private static String face(Checks x, Method method) {
+        for (Class<?> parameter : method.getParameterTypes()) {
+            x.same("a parameter of " + method.getName(), "int", parameter.getName());
+        }
+        StringBuilder thrown = new StringBuilder();
+        for (Class<?> exception : method.getExceptionTypes()) {
+            thrown.append(exception == IndexOutOfBoundsException.class ? 'I'
+                    : exception == IllegalArgumentException.class ? 'A'
+                    : exception == IllegalStateException.class ? 'S' : '?');
+        }
+        return method.getName() + " " + method.getParameterCount() + " " + thrown;
     }
 }
