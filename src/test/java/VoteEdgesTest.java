@@ -136,6 +136,11 @@ public final class VoteEdgesTest {
         X.allowed(FIXED + "; leave 50", "send 99", 0);
         X.allowed(FIXED + "; leave 50; join 50 35", "send 50", 0);
         X.refused(FIXED + "; leave 50; join 50 35; leave 50", "send 50");
+        X.sentence("send: of the moment of the call, so one who is back is sent another one of this roll");
+        X.allowed(BALLOTS + "; leave 50; join 50 35", "send 50", 4);
+        X.allowed(BALLOTS + "; leave 50; join 50 35; send 50", "stateOf 2", REPLACED);
+        X.allowed(BALLOTS + "; leave 50; join 50 35; send 50", "sentTo 4", 35);
+        X.allowed(BALLOTS + "; leave 50; join 50 35; send 50", "giveBack 4 0", 1);
     }
 
     private static void sendsLatestBallotReturned() {
@@ -173,6 +178,8 @@ public final class VoteEdgesTest {
         X.sentence("send: one of a vote that is closed");
         X.allowed(CLOSED + "; fix; send 50", "stateOf 2", SENT);
         X.allowed(CLOSED + "; fix; send 0", "stateOf 1", RETURNED);
+        X.allowed(CLOSED + "; fix; send 50; send 50", "stateOf 2", SENT);
+        X.allowed(CLOSED + "; fix; send 50; giveBack 4 0", "stateOf 2", SENT);
     }
 
     private static void sentTosBallot() {
